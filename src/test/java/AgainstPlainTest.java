@@ -23,6 +23,7 @@ final class AgainstPlainTest {
         for (long seed = first; seed < first + runs && Check.wrongSoFar() == 0; seed++) {
             int maxSide = seed % 8 == 0 ? 20 : seed % 3 == 0 ? 5 : 11;
             new AgainstPlainTest(seed, maxSide).calls(maxSide > 11 ? 100 : 300);
+            new AgainstPlainTest(-seed, seed % 8 == 0 ? 20 : 14).guidedCalls();
         }
         Check.end();
     }
@@ -45,6 +46,49 @@ final class AgainstPlainTest {
             }
         }
         compareAll();
+    }
+
+    /** Holes that HALF has, too, and what is made of them GUIDED or not. */
+    private void guidedCalls() {
+        for (call = 0; call < 8; call++) {
+            readText(goodText());
+            due("keep", () -> plain.keep(), () -> holes.keep());
+            for (int i = 0; i < 2; i++) {
+                int x = 2 * random.nextInt((w + 1) / 2);
+                int y = 2 * random.nextInt((h + 1) / 2);
+                int toX = Math.min(w - 1, x + 1 + 2 * random.nextInt(3));
+                int toY = Math.min(h - 1, y + 1 + 2 * random.nextInt(3));
+                due("hole", () -> plain.hole(x, y, toX, toY), () -> holes.hole(x, y, toX, toY));
+            }
+            for (int i = 0; i < 3; i++) {
+                int[] most = {random.nextInt(3) == 0 ? 2 : 1, 20, 1, 2, 3, 1, 1};
+                int what = random.nextInt(7);
+                int v = what == 1 ? 2 + random.nextInt(19) : (what == 0 ? 1 : 0) + random.nextInt(most[what] + (what == 0 ? 0 : 1));
+                due("set(" + what + ", " + v + ")", () -> plain.set(what, v), () -> holes.set(what, v));
+            }
+            for (int i = 0; i <= 2; i++) {
+                int what = i;
+                due("flawBy " + what, () -> plain.flawBy(what), () -> holes.flawBy(what));
+                due("tune " + what, () -> plain.tune(what), () -> holes.tune(what));
+                due("ahead " + what, () -> plain.ahead(60, 2 + what), () -> holes.ahead(60, 2 + what));
+            }
+            int levels = 1 + random.nextInt(2);
+            due("guide " + levels, () -> plain.guide(levels), () -> holes.guide(levels));
+            compareAll();
+            compareLogs();
+            due("undo", () -> plain.undo(), () -> holes.undo());
+            compareLogs();
+        }
+    }
+
+    private void compareLogs() {
+        for (int k = 0; k <= 30; k++) {
+            for (int i = 0; i <= 8; i++) {
+                int latest = k;
+                int what = i;
+                due("log " + k + " " + i, () -> plain.log(latest, what), () -> holes.log(latest, what));
+            }
+        }
     }
 
     private void due(String what, Check.Call want, Check.Call got) {

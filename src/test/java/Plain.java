@@ -96,9 +96,11 @@ final class Plain {
 
         List<int[]> patch(int x, int y, int size) {
             List<int[]> list = new ArrayList<>();
-            for (int[] d : all()) {
-                if (Math.abs(d[0] - x) <= size && Math.abs(d[1] - y) <= size) {
-                    list.add(d);
+            for (int v = y - size; v <= y + size; v++) {
+                for (int u = x - size; u <= x + size; u++) {
+                    if (has(u, v)) {
+                        list.add(new int[] {u, v});
+                    }
                 }
             }
             return list;

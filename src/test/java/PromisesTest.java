@@ -816,6 +816,13 @@ final class PromisesTest {
                 Check.due("part " + part + " " + what, due[part][what], x.part(part, what));
             }
         }
+        FilledHoles y = Check.of("?aaa/aaaa/aaa?");
+        int[][] corners = {{1, 0, 0, 0, 0, 1}, {1, 3, 2, 3, 2, 1}};
+        for (int part = 0; part < 2; part++) {
+            for (int what = 0; what < 6; what++) {
+                Check.due("corner " + part + " " + what, corners[part][what], y.part(part, what));
+            }
+        }
         Check.dueOf("part(3, 9)", NO, () -> x.part(3, 9));
         Check.dueOf("part(-1, 0)", NO, () -> x.part(-1, 0));
         Check.dueOf("part(0, 6)", BAD, () -> x.part(0, 6));
@@ -832,6 +839,9 @@ final class PromisesTest {
                 Check.due("ring " + part + " " + what, due[part][what], x.ring(part, what));
             }
         }
+        FilledHoles corner = Check.of("b?aa/aaaa/aaaa");
+        Check.due("the corner is of the RING", 10, corner.ring(0, 2));
+        Check.due("10 by 3", 3, corner.ring(0, 3));
         Check.dueOf("ring(3, 9)", NO, () -> x.ring(3, 9));
         Check.dueOf("ring(0, 4)", BAD, () -> x.ring(0, 4));
         Check.dueOf("ring(0, -1)", BAD, () -> x.ring(0, -1));
@@ -909,6 +919,12 @@ final class PromisesTest {
         Check.due("none filled in", -1, y.ahead(1, 4));
         y.hole(0, 0, 1, 1);
         y.hole(6, 6, 7, 7);
+        // (1, 0), PATCH of six, and (0, 1) have two KNOWN ones, (1, 1) has five of nine; (6, 6) likewise
+        Check.due("the least SURE", 555, y.ahead(60, 4));
+        y.hole(0, 2, 0, 2);
+        // now (1, 1) has four of nine
+        Check.due("the least SURE, of the corner, too", 1, y.ahead(60, 4) < 555 ? 1 : 0);
+        y.undo();
         Check.due("one FILL leaves four", 4, y.ahead(1, 0));
         Check.due("two leave none", 0, y.ahead(2, 0));
     }
@@ -961,6 +977,13 @@ final class PromisesTest {
         Check.due("none goes: the least SIZE", 1, y.tune(0));
         Check.due("MISSING", 1, y.tune(1));
         bestBySize2();
+        bestBySize3();
+        FilledHoles z = Check.of(CHEQUER);
+        z.keep();
+        z.hole(10, 2, 11, 3);
+        Check.due("FILLS that are not GUIDED", 0, z.tune(2));
+        Check.due("FILLS that are not GUIDED", 0, z.ahead(60, 2));
+        Check.due("FILLS that are not GUIDED", 0, z.turning(1));
     }
 
     /** What is two DOTS away tells which of two is right: SIZE 1 takes the first, and is wrong. */
@@ -976,6 +999,23 @@ final class PromisesTest {
         Check.due("SIZE", 2, x.tune(0));
         Check.due("MISSING", 0, x.tune(1));
         Check.due("FLAW", 0, x.tune(2));
+    }
+
+    /** The same with what is three DOTS away. */
+    private static void bestBySize3() {
+        FilledHoles x = Check.of("20a/20a/20a/20a/20a/20a/20a");
+        x.paint(8, 3, 50);
+        x.paint(15, 3, 50);
+        x.paint(5, 0, 200);
+        x.paint(12, 0, 200);
+        x.keep();
+        x.hole(15, 3, 15, 3);
+        Check.due("SIZE", 3, x.tune(0));
+        Check.due("MISSING", 0, x.tune(1));
+        Check.due("FLAW", 0, x.tune(2));
+        x.set(0, 3);
+        Check.due("as by fill()", 1, x.fill(60));
+        Check.due("FLAW", 0, x.flaw());
     }
 
     private static void reaching() {
