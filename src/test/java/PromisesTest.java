@@ -724,8 +724,13 @@ final class PromisesTest {
         Check.due("SHIFT", -1, y.search(4, 1, 8));
         FilledHoles z = new FilledHoles();
         z.set(6, 1);
+        z.paint(4, 4, 90);
         z.hole(5, 5, 7, 7);
+        Check.due("SHIFT of another: 90 by 8", 11, z.search(4, 4, 8));
         Check.due("no SHIFT without KNOWN ones", 0, z.search(6, 6, 8));
+        z.set(6, 0);
+        Check.due("BOUND of another: 8,100 by 8", 1012, z.difference(4, 4, 1, 1, 1));
+        Check.due("no BOUND without KNOWN ones", 0, z.difference(6, 6, 1, 1, 1));
     }
 
     private static void shiftingBeyondTheTones() {
@@ -915,6 +920,13 @@ final class PromisesTest {
         Check.dueOf("ahead(61, 0)", BAD, () -> x.ahead(61, 0));
         Check.dueOf("ahead(1, 5)", BAD, () -> x.ahead(1, 5));
         Check.dueOf("ahead(1, -1)", BAD, () -> x.ahead(1, -1));
+        FilledHoles corner = new FilledHoles();
+        corner.hole(0, 0, 0, 0);
+        corner.hole(5, 5, 5, 5);
+        Check.due("the least SURE is the corner's", 750, corner.ahead(2, 4));
+        corner.fill(2);
+        corner.hole(5, 5, 5, 5);
+        Check.due("of all that are filled in then", 750, corner.ahead(1, 4));
         FilledHoles y = new FilledHoles();
         Check.due("none filled in", -1, y.ahead(1, 4));
         y.hole(0, 0, 1, 1);
