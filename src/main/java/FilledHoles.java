@@ -28,7 +28,7 @@ public final class FilledHoles {
     private boolean hasTruth = false;
 
     private final Ranker ranker = new Ranker();
-    private final Searcher searcher = new Searcher();
+    private final Searcher searcher = new Searcher(picture, settings);
     private final Parts parts = new Parts();
     private final Filler filler = new Filler(ranker, searcher);
 
@@ -258,7 +258,7 @@ public final class FilledHoles {
         if (what % 2 == 1) {
             return (int) searcher.bound;
         }
-        return searcher.reckon(q, way, Integer.MAX_VALUE);
+        return searcher.reckon(q, way, Searcher.NO_LIMIT);
     }
 
     public int front(int k, int what) throws IllegalArgumentException {
@@ -1152,6 +1152,8 @@ public final class FilledHoles {
     /** The SEARCH for one DOT. */
     private static final class Searcher {
         static final int MOST_WAYS = 8;
+        /** No DIFFERENCE comes to it: 49 DOTS, 510 apart, WEIGHT 5, are far below. */
+        static final int NO_LIMIT = 2147483647;
         private static final int MOST_PATCH = 49;
         private static final int TABLE_SIDE = 21;
         private static final int SURE_A_WEIGHT = 250;
@@ -1162,8 +1164,8 @@ public final class FilledHoles {
         private static final int[] Y_BY_DX = {0, 0, 0, 0, 1, 1, -1, -1};
         private static final int[] Y_BY_DY = {1, 1, -1, -1, 0, 0, 0, 0};
 
-        private Picture picture = null;
-        private Settings settings = null;
+        private Picture picture;
+        private Settings settings;
         private int aimX = 0;
         private int aimY = 0;
 
@@ -1188,6 +1190,11 @@ public final class FilledHoles {
         private int skipped = 0;
         private int stopped = 0;
         private int looked = 0;
+
+        Searcher(Picture picture, Settings settings) {
+            this.picture = picture;
+            this.settings = settings;
+        }
 
         void aim(Picture newPicture, Settings newSettings, int x, int y) {
             picture = newPicture;
@@ -1302,7 +1309,7 @@ public final class FilledHoles {
 
         private void ask(int q, int way) {
             asked++;
-            int limit = best == NONE ? Integer.MAX_VALUE : bestDifference;
+            int limit = best == NONE ? NO_LIMIT : bestDifference;
             if (limit == 0) {
                 // no BOUND is below 0, so there is none to reckon
                 skipped++;
