@@ -13,6 +13,7 @@ final class Check {
 
     private static int asked = 0;
     private static int wrong = 0;
+    private static String about = "";
 
     private Check() {
     }
@@ -22,9 +23,26 @@ final class Check {
         if (want != got) {
             wrong++;
             if (wrong <= 60) {
-                System.out.println(what + ": answered " + name(got) + ", due is " + name(want));
+                System.out.println(about + what + ": answered " + name(got) + ", due is " + name(want));
             }
         }
+    }
+
+    /** What the answers that follow are looked at for: stands ahead of each that is wrong. */
+    static void about(String sentence) {
+        about = sentence.isEmpty() ? "" : sentence + " -- ";
+    }
+
+    static void same(String what, String want, String got) {
+        asked++;
+        if (!want.equals(got)) {
+            wrong++;
+            System.out.println(about + what + ": is " + got + ", due is " + want);
+        }
+    }
+
+    static int askedSoFar() {
+        return asked;
     }
 
     static void dueOf(String what, long want, Call call) {
