@@ -215,6 +215,20 @@ final class AskEdges {
             Check.due("BOUND of WAY " + way, 0, x.difference(4, 1, 1, 1, 2 * way + 1));
         }
         Check.due("TURNS", 0, x.told(16));
+        // the corner (0, 0) has four DOTS, to the right and below; what q has to its right is of them by half the WAYS
+        FilledHoles corner = Check.of("6a/6a/6a");
+        corner.paint(5, 1, 10);
+        int[] apart = {100, 0, 0, 100, 100, 0, 0, 100};
+        for (int way = 0; way <= 7; way++) {
+            Check.due("a corner, WAY " + way, apart[way], corner.difference(0, 0, 4, 1, 2 * way));
+            Check.due("a corner, BOUND of WAY " + way, apart[way] / 4, corner.difference(0, 0, 4, 1, 2 * way + 1));
+        }
+        corner.set(6, 1);
+        for (int way = 0; way <= 7; way++) {
+            // -10 by 4 (cut) is -2: 8 once, 2 three times; together 2, squared, by 4
+            Check.due("SHIFTED, WAY " + way, apart[way] == 0 ? 0 : 76, corner.difference(0, 0, 4, 1, 2 * way));
+            Check.due("SHIFTED, BOUND of WAY " + way, apart[way] / 100, corner.difference(0, 0, 4, 1, 2 * way + 1));
+        }
         int[] wrong = {-1, 16, -2, 17, Integer.MIN_VALUE, Integer.MAX_VALUE};
         for (int what : wrong) {
             Check.dueOf("what " + what, BAD, () -> x.difference(4, 1, 1, 1, what));

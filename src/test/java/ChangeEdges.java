@@ -569,15 +569,9 @@ final class ChangeEdges {
         }
         x.fill(60);
         x.guide(2);
-        x.hole(1, 1, 1, 1);
-        x.undo();
-        x.hole(1, 1, 1, 1);
-        Check.due("ten", 10, x.told(8));
-        x.set(1, 1);
-        x.hole(1, 1, 1, 1);
-        x.undo();
-        x.fill(1);
-        for (int i = 14; i >= 6; i--) {
+        Check.answer(() -> x.paint(0, 0, 256));
+        Check.due("ten still", 10, x.told(8));
+        for (int i = 14; i >= 5; i--) {
             Check.due("MISSING", 0, x.undo());
             Check.due("TONE", i, x.dot(0, 0, 0));
         }

@@ -72,13 +72,10 @@ final class ThoughtEdges {
         Check.due("FLAW as it is then", x.flaw(), flaw);
         int least = 1000;
         for (int i = 0; i < 280; i++) {
-            least = Math.min(least, x.dot(6 + i % 14, i / 14, 2) == 1 ? sureOf(x, i) : 1000);
+            int of = x.dot(6 + i % 14, i / 14, 1);
+            least = of > 0 ? Math.min(least, of) : least;
         }
         Check.due("the least SURE as it is then", least, sure);
-    }
-
-    private static int sureOf(FilledHoles x, int i) {
-        return x.dot(6 + i % 14, i / 14, 1);
     }
 
     private static void aheadWithoutTruth() {
@@ -231,7 +228,8 @@ final class ThoughtEdges {
         FilledHoles chequer = Check.of(GuidedEdges.CHEQUER);
         chequer.keep();
         chequer.hole(10, 2, 11, 3);
-        Check.due("FILLS that are not GUIDED", 0, chequer.tune(2));
+        // GUIDED, SIZE 1 would have a FLAW, and SIZE 2, which has no HALF to go by, would be better
+        AskEdges.all("FILLS that are not GUIDED: tune", new int[] {1, 0, 0}, chequer::tune);
     }
 
     /** (14, 4) is as (9, 4) by what is so many DOTS away from both, and as nothing at all by less. */
