@@ -2,22 +2,18 @@ import java.lang.reflect.Constructor;
 import java.lang.reflect.Field;
 import java.lang.reflect.Method;
 import java.lang.reflect.Modifier;
+import java.nio.charset.StandardCharsets;
+import java.nio.file.Files;
+import java.nio.file.Path;
 import java.util.Set;
 import java.util.TreeSet;
 
-/** The class has the document's face and shows nothing else (LANGUAGE.md, rules 1 and 5). */
+/** The class has the document's face and shows nothing else (LANGUAGE.md, rules 1, 5, 11). Run from the root. */
 final class FaceTest {
-    private static final String[] FACE = {
-        "int feed int int int int int", "int text int", "int fault", "int set int int",
-        "int hole int int int int", "int paint int int int", "int keep", "int fill int", "int guide int",
-        "int undo", "int told int", "int dot int int int", "int rank int int int", "int next int",
-        "int search int int int", "int difference int int int int int", "int front int int",
-        "int part int int", "int ring int int", "int log int int", "int half int int int",
-        "int ahead int int", "int flaw", "int flawBy int", "int tune int", "int reach int int int",
-        "int seams int", "int favourite int", "int turning int", "int lent int int", "long print",
-        "int status int"};
+    private static final Path DOCUMENT = Path.of("..", "shared", "DOC.md");
+    private static final int METHODS = 32;
 
-    public static void main(String[] args) {
+    public static void main(String[] args) throws java.io.IOException {
         Class<?> face = FilledHoles.class;
         Check.due("NONE", -1, FilledHoles.NONE);
         Check.due("public and final", Modifier.PUBLIC | Modifier.FINAL, face.getModifiers());
@@ -28,15 +24,27 @@ final class FaceTest {
         Check.end();
     }
 
-    private static void checkMethods(Class<?> face) {
-        Set<String> due = new TreeSet<>(Set.of(FACE));
+    /** Each method as "The public face" writes it, without the names of its arguments. */
+    private static Set<String> documentFace() throws java.io.IOException {
+        Set<String> face = new TreeSet<>();
+        for (String line : Files.readAllLines(DOCUMENT, StandardCharsets.UTF_8)) {
+            if (line.matches("    public (int|long) \\w+\\(.*\\).*;")) {
+                face.add(line.substring(4, line.length() - 1).replaceAll("int \\w+([,)])", "int$1"));
+            }
+        }
+        Check.due("methods of the document's face", METHODS, face.size());
+        return face;
+    }
+
+    private static void checkMethods(Class<?> face) throws java.io.IOException {
+        Set<String> due = documentFace();
         Set<String> publicNames = new TreeSet<>();
-        for (String signature : FACE) {
-            publicNames.add(signature.split(" ")[1]);
+        for (String written : due) {
+            publicNames.add(written.replaceAll("public \\w+ (\\w+).*", "$1"));
         }
         for (Method method : face.getDeclaredMethods()) {
             if (Modifier.isPublic(method.getModifiers())) {
-                Check.due("in the face: " + signature(method), 1, due.remove(signature(method)) ? 1 : 0);
+                Check.due("in the face: " + written(method), 1, due.remove(written(method)) ? 1 : 0);
             } else {
                 Check.due("private: " + method, 1, Modifier.isPrivate(method.getModifiers()) ? 1 : 0);
                 Check.due("own name: " + method, 0, publicNames.contains(method.getName()) ? 1 : 0);
@@ -53,13 +61,19 @@ final class FaceTest {
         }
     }
 
-    private static String signature(Method method) {
-        StringBuilder text = new StringBuilder();
-        text.append(method.getReturnType().getName()).append(' ').append(method.getName());
-        for (Class<?> type : method.getParameterTypes()) {
-            text.append(' ').append(type.getName());
+    private static String written(Method method) {
+        String throwing = names(method.getExceptionTypes());
+        return Modifier.toString(method.getModifiers()) + " " + method.getReturnType().getSimpleName() + " "
+                + method.getName() + "(" + names(method.getParameterTypes()) + ")"
+                + (throwing.isEmpty() ? "" : " throws " + throwing);
+    }
+
+    private static String names(Class<?>[] types) {
+        StringBuilder names = new StringBuilder();
+        for (Class<?> type : types) {
+            names.append(names.length() == 0 ? "" : ", ").append(type.getSimpleName());
         }
-        return text.toString();
+        return names.toString();
     }
 
     private static void checkConstructors(Class<?> face) {
